@@ -429,7 +429,7 @@ public final class MarkPages {
             into[M_CLASS] = medians[s];
         }
 
-        int shareBy(int p, int set) {
+        private int shareBy(int p, int set) {
             int reached = 0;
             int reachable = 0;
             for (int q = 0; q < count; q++) {
@@ -442,7 +442,7 @@ public final class MarkPages {
         }
 
         /** Of a set of QUESTIONS the one with the greatest number, alone. */
-        int lastOf(int set) {
+        private int lastOf(int set) {
             int last = 0;
             for (int q = 0; q < count; q++) {
                 if ((set >> q & 1) == 1) {
@@ -452,7 +452,7 @@ public final class MarkPages {
             return last;
         }
 
-        int missedBy(int p, int set) {
+        private int missedBy(int p, int set) {
             int missed = 0;
             for (int q = 0; q < count; q++) {
                 if ((set >> q & 1) == 1 && pointsOf(p, q) == 0) {
@@ -462,7 +462,7 @@ public final class MarkPages {
             return missed;
         }
 
-        int medianOf(int s) {
+        private int medianOf(int s) {
             int n = 0;
             for (int p = 0; p < PUPILS; p++) {
                 int set = markedOf(p, s);
@@ -474,7 +474,7 @@ public final class MarkPages {
             return n > 0 ? rising[(n - 1) / 2] : 0;
         }
 
-        void insertRising(int n, int share) {
+        private void insertRising(int n, int share) {
             int place = n;
             for (int i = n; i > 0 && rising[i - 1] > share; i--) {
                 rising[i] = rising[i - 1];
@@ -631,7 +631,7 @@ public final class MarkPages {
             return pop() != 0;
         }
 
-        void take(int token, int[] measures) {
+        private void take(int token, int[] measures) {
             if (token <= HIGHEST_NUMBER) {
                 push(token);
             } else if (token >= MARKED && token <= CLASS) {
@@ -645,7 +645,7 @@ public final class MarkPages {
             }
         }
 
-        static int join(int left, int token, int right) {
+        private static int join(int left, int token, int right) {
             switch (token) {
                 case PLUS:
                     return left + right;
@@ -664,18 +664,18 @@ public final class MarkPages {
             }
         }
 
-        static int truth(boolean so) {
+        private static int truth(boolean so) {
             return so ? 1 : 0;
         }
 
-        void push(int value) {
+        private void push(int value) {
             if (height < PILE_ROOM) {
                 pile[height] = value;
                 height++;
             }
         }
 
-        int pop() {
+        private int pop() {
             if (height == 0) {
                 return 0;
             }
@@ -700,7 +700,7 @@ public final class MarkPages {
             append(END, text.count);
         }
 
-        void append(int kind, int place) {
+        private void append(int kind, int place) {
             if (count <= TAPE_ROOM) {
                 kinds[count] = kind;
                 places[count] = place;
@@ -708,14 +708,14 @@ public final class MarkPages {
             }
         }
 
-        static boolean startsToken(Tape text, int at) {
+        private static boolean startsToken(Tape text, int at) {
             int family = familyOf(text.bytes[at]);
             boolean runs = family == LETTER || family == DIGIT;
             boolean goesOn = runs && at > 0 && familyOf(text.bytes[at - 1]) == family;
             return family != BLANK && !goesOn;
         }
 
-        static int familyOf(int b) {
+        private static int familyOf(int b) {
             if (b == ' ' || b == '\n') {
                 return BLANK;
             }
@@ -725,7 +725,7 @@ public final class MarkPages {
             return b >= '0' && b <= '9' ? DIGIT : OTHER;
         }
 
-        static int tokenAt(Tape text, int at) {
+        private static int tokenAt(Tape text, int at) {
             int family = familyOf(text.bytes[at]);
             if (family == OTHER) {
                 return signOf(text.bytes[at]);
@@ -737,7 +737,7 @@ public final class MarkPages {
             return family == LETTER ? keywordOf(text, at, end) : numberOf(text, at, end);
         }
 
-        static int signOf(int b) {
+        private static int signOf(int b) {
             switch (b) {
                 case ';':
                 case '(':
@@ -753,7 +753,7 @@ public final class MarkPages {
             }
         }
 
-        static int numberOf(Tape text, int at, int end) {
+        private static int numberOf(Tape text, int at, int end) {
             if (end - at > LONGEST_NUMBER) {
                 return NO_TOKEN;
             }
@@ -764,7 +764,7 @@ public final class MarkPages {
             return value;
         }
 
-        static int keywordOf(Tape text, int at, int end) {
+        private static int keywordOf(Tape text, int at, int end) {
             for (int token = SAY; token <= CLASS; token++) {
                 if (spells(text, at, end, spelling(token))) {
                     return token;
@@ -773,7 +773,7 @@ public final class MarkPages {
             return NO_TOKEN;
         }
 
-        static boolean spells(Tape text, int at, int end, String word) {
+        private static boolean spells(Tape text, int at, int end, String word) {
             if (end - at != word.length()) {
                 return false;
             }
@@ -785,7 +785,7 @@ public final class MarkPages {
             return true;
         }
 
-        static String spelling(int token) {
+        private static String spelling(int token) {
             switch (token) {
                 case SAY:
                     return "say";
@@ -858,7 +858,7 @@ public final class MarkPages {
             return true;
         }
 
-        int readNumber(int highest) {
+        private int readNumber(int highest) {
             int number = now;
             if (number > HIGHEST_NUMBER) {
                 refuse(CANNOT_STAND);
@@ -873,7 +873,7 @@ public final class MarkPages {
         }
 
         /** E = A {or A}. */
-        boolean readEither(int open) {
+        private boolean readEither(int open) {
             boolean fine = readBoth(open);
             for (int i = 0; i < tokens.count && fine && now == OR; i++) {
                 advance();
@@ -884,7 +884,7 @@ public final class MarkPages {
         }
 
         /** A = C {and C}. */
-        boolean readBoth(int open) {
+        private boolean readBoth(int open) {
             boolean fine = readCondition(open);
             for (int i = 0; i < tokens.count && fine && now == AND; i++) {
                 advance();
@@ -895,7 +895,7 @@ public final class MarkPages {
         }
 
         /** C = T (< | = | >) T | not C | ( E ); open says how many not and ( stand around it. */
-        boolean readCondition(int open) {
+        private boolean readCondition(int open) {
             if (now != NOT && now != OPENING) {
                 return readComparison();
             }
@@ -912,7 +912,7 @@ public final class MarkPages {
             return fine;
         }
 
-        boolean readComparison() {
+        private boolean readComparison() {
             if (!readSum()) {
                 return false;
             }
@@ -927,7 +927,7 @@ public final class MarkPages {
         }
 
         /** T = U {(+ | -) U}. */
-        boolean readSum() {
+        private boolean readSum() {
             int sign = NO_TOKEN;
             for (int i = 0; i < tokens.count; i++) {
                 if (!isValue(now)) {
@@ -947,11 +947,11 @@ public final class MarkPages {
             return refuse(CANNOT_STAND);
         }
 
-        static boolean isValue(int token) {
+        private static boolean isValue(int token) {
             return token <= HIGHEST_NUMBER || token >= MARKED && token <= CLASS;
         }
 
-        boolean expect(int token) {
+        private boolean expect(int token) {
             if (now != token) {
                 return refuse(CANNOT_STAND);
             }
@@ -959,14 +959,14 @@ public final class MarkPages {
             return true;
         }
 
-        void advance() {
+        private void advance() {
             if (at < tokens.count - 1) {
                 at++;
                 now = tokens.kinds[at];
             }
         }
 
-        boolean refuse(int kind) {
+        private boolean refuse(int kind) {
             faultKind = kind;
             faultPlace = tokens.places[at];
             return false;

@@ -6,8 +6,10 @@ public final class ClassTest {
     public static void main(String[] args) {
         alike();
         alikeByLines();
+        alikeAfterLonger();
         sheet();
         groups();
+        groupsByTen();
         Desk.finish();
     }
 
@@ -66,6 +68,24 @@ public final class ClassTest {
         Desk.due("16: another order", order.x.alike(0, 1), 0);
     }
 
+    /** PAGES that were longer before, and PAGES as long as can be. */
+    private static void alikeAfterLonger() {
+        Desk desk = new Desk();
+        desk.x.question(10, 31);
+        desk.rules("say 0 when 0=0; say 10 when 0=0; say 20 when share > 50; say 21 when 0=0;");
+        desk.x.mark(0, 0, 9);
+        desk.x.mark(1, 0, 8);
+        desk.x.mark(2, 0, 1);
+        Desk.due("16: twelve lines", desk.x.alike(0, 1), 1);
+        Desk.due("16: twelve others", desk.x.alike(0, 2), 0);
+        desk.rules("say 30 skill 0 when 0=0; say 0 skill 1 when 0=0;");
+        Desk.due("16: shorter now", desk.x.alike(0, 2), 1);
+        desk.rules("");
+        Desk.due("16: empty now", desk.x.alike(0, 2), 1);
+        Desk.due("17: empty now", desk.x.sheet(0, 3), 0);
+        Desk.due("18: empty now", desk.x.group(-1), 1);
+    }
+
     private static void sheet() {
         Desk desk = desk();
         int[] wrongSkills = {-1, 5, LOW, HIGH};
@@ -89,6 +109,20 @@ public final class ClassTest {
         Desk.due("17: next of 1", desk.x.sheet(1, 2), 2);
         Desk.due("17: sort 3", desk.x.sheet(1, 3), 0);
         Desk.due("17: skill 2", desk.x.sheet(2, 0), 0);
+    }
+
+    private static void groupsByTen() {
+        Desk desk = new Desk();
+        for (int q = 0; q < 10; q++) {
+            desk.x.question(5, 1);
+        }
+        desk.x.mark(1, 0, 5);
+        desk.x.mark(3, 9, 5);
+        int[] want = {-1, 0, -1, 0, -1, -1, -1, -1};
+        for (int p = 0; p < 8; p++) {
+            Desk.due("18: by ten questions, of " + p, desk.x.group(p), want[p]);
+        }
+        Desk.due("18: no rules, one group", desk.x.group(-1), 1);
     }
 
     private static void groups() {

@@ -18,7 +18,7 @@ public final class FormTest {
         "out(int)int", "page(int)int", "phrase(int,int)boolean", "question(int,int)int", "rules()int",
         "sheet(int,int)int", "write(int,int)int");
     private static final String[] BARRED = {"\\b(throw|throws|try|catch|synchronized|assert|package)\\b",
-        "->", "::", "\\bExact\\b", "\\b(hashCode|toString|getClass|System\\.(?!arraycopy))\\b",
+        "->", "::", "Exact\\b", "\\b(hashCode|toString|getClass|System\\.(?!arraycopy))\\b",
         "\\bimport (?!java\\.util\\.(Arrays|ArrayList|List|Iterator);)", "\\bnull\\b", "static \\{"};
 
     public static void main(String[] args) throws Exception {

@@ -10,6 +10,7 @@ public final class PapersTest {
         ofQuestions();
         gotByQuestions();
         gotWrong();
+        gotByTen();
         medians();
         Desk.finish();
     }
@@ -150,6 +151,22 @@ public final class PapersTest {
             Desk.due("5: what " + n, x.got(0, 0, n), -1);
         }
         Desk.due("5: the last of each", x.got(7, 4, 4), 100);
+    }
+
+    private static void gotByTen() {
+        MarkPages x = new MarkPages();
+        x.question(1, 1);
+        x.mark(0, 0, 1);
+        got("a most of 1", x, 0, 0, 1, 100, 0, 100, 100);
+        for (int q = 1; q < 10; q++) {
+            x.question(20, 1);
+            x.mark(0, q, q == 9 ? 1 : 0);
+        }
+        got("ten questions", x, 0, 0, 10, 1, 8, 5, 1);
+        x.mark(1, 0, 0);
+        x.mark(1, 9, 20);
+        got("the next pupil", x, 1, 0, 2, 95, 1, 100, 1);
+        got("the one behind", x, 2, 0, 0, 0, 0, 0, 1);
     }
 
     private static void medians() {

@@ -8,6 +8,8 @@ public final class RulesTest {
         cannotStand();
         tooHigh();
         tooMany();
+        fullTapes();
+        cutTapes();
         faultsAndStaying();
         meaning();
         measures();
@@ -46,6 +48,12 @@ public final class RulesTest {
         fault("SAY 0 when 0=0;", "1@0");
         fault("saY 0 when 0=0;", "1@0");
         fault("sa 0 when 0=0;", "1@0");
+        fault("xay 0 when 0=0;", "1@0");
+        fault("sayA 0 when 0=0;", "1@0");
+        fault("sayZ 0 when 0=0;", "1@0");
+        fault("saya 0 when 0=0;", "1@0");
+        fault("sayz 0 when 0=0;", "1@0");
+        fault("say 0 when mast = 0;", "1@11");
         fault("say 0 when clas = 0;", "1@11");
         fault("say 0 when classs = 0;", "1@11");
         fault("say 0000 when 0=0;", "1@4");
@@ -156,6 +164,32 @@ public final class RulesTest {
         rules("say 0 when (((((((not 0=0 and not 0=0 or not 0=0) and (0=0)) and (0=0))))));", 1);
         fault("say 0 when (((((((not 0=0 and not not 0=0)))))));", "3@34");
         fault("say 0 when 0=0 " + "(".repeat(9), "1@15");
+    }
+
+    private static void fullTapes() {
+        fault(";".repeat(600), "1@0");
+        fault("say0when" + "0+".repeat(296), "1@600");
+        String longest = "say 0 when 0" + "+1".repeat(292) + "=1;";
+        Desk desk = new Desk();
+        desk.x.question(4, 1);
+        desk.x.mark(0, 0, 2);
+        for (int i = 0; i < 6; i++) {
+            Desk.due("8: a long text", desk.rules(longest), 1);
+            Desk.due("12: is not so", desk.x.page(0), 0);
+            Desk.due("8: a long text", desk.rules(longest.replace("=1;", "=292;").replace("0+1+1+", "0+2+")), 1);
+            Desk.due("12: is so", desk.x.page(0), 1);
+        }
+    }
+
+    /** What was cut off the TAPE no longer belongs to its last word or number. */
+    private static void cutTapes() {
+        Desk desk = new Desk();
+        desk.type("sayings").x.end(3);
+        desk.x.rules();
+        Desk.due("9: a cut word", desk.x.fault(0) + "@" + desk.x.fault(1), "1@3");
+        desk.type("say 123").x.end(5);
+        desk.x.rules();
+        Desk.due("9: a cut number", desk.x.fault(0) + "@" + desk.x.fault(1), "1@5");
     }
 
     private static void faultsAndStaying() {

@@ -8,6 +8,7 @@ public final class WritingTest {
         names();
         tongues();
         shares();
+        sharesByTen();
         outStays();
         longest();
         emptyPhrase();
@@ -98,6 +99,20 @@ public final class WritingTest {
         for (int p = 0; p < points.length; p++) {
             Desk.due("14: share", desk.write(p, 0), texts[p] + "|" + texts[p] + "\n");
         }
+    }
+
+    /** 9 and 99 are the last shares of one and of two digits. */
+    private static void sharesByTen() {
+        Desk desk = new Desk();
+        for (int q = 0; q < 10; q++) {
+            desk.x.question(20, 1);
+            desk.x.mark(0, q, q == 0 ? 18 : 0);
+            desk.x.mark(1, q, q == 0 ? 18 : 20);
+        }
+        desk.rules("say 5 when 0=0;");
+        desk.phrase(5, 0, "#");
+        Desk.due("14: share 9", desk.write(0, 0), "9\n");
+        Desk.due("14: share 99", desk.write(1, 0), "99\n");
     }
 
     private static void outStays() {
