@@ -317,10 +317,13 @@ public final class MarkPages {
         return judge.isSo(book, r, trial);
     }
 
-    /** The measures are those of the PUPIL whose PAGE was made last. */
+    /**
+     * The measures are those of the PUPIL whose PAGE was made last. A PHRASE without bytes is none,
+     * however it came to have none: its LINE is left out, the byte 10 too.
+     */
     private void writeLine(int saying, int skill, int tongue) {
         int row = rowOf(saying, tongue);
-        if (phrases.lengths[row] == NONE) {
+        if (phrases.lengths[row] == 0) {
             return;
         }
         for (int i = 0; i < phrases.lengths[row]; i++) {
@@ -496,7 +499,7 @@ public final class MarkPages {
         }
     }
 
-    /** Texts by rows; one that was never told has the length NONE, which is not a length of 0. */
+    /** Texts by rows; at first each has no bytes, as has one that is told from an empty TAPE. */
     private static final class Texts {
         final int width;
         final int[] lengths;
@@ -506,7 +509,6 @@ public final class MarkPages {
             this.width = width;
             lengths = new int[rows];
             bytes = new int[rows * width];
-            Arrays.fill(lengths, NONE);
         }
 
         boolean keep(int row, Tape tape) {

@@ -381,8 +381,8 @@ final class Model {
         }
         StringBuilder text = new StringBuilder();
         for (Line line : lines(p)) {
-            String phrase = phrases.get(List.of(line.saying, tongue));
-            if (phrase == null) {
+            String phrase = phrases.getOrDefault(List.of(line.saying, tongue), "");
+            if (phrase.isEmpty()) {
                 continue;
             }
             String name = names.getOrDefault(List.of(line.skill, tongue), "");

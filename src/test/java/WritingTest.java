@@ -12,6 +12,8 @@ public final class WritingTest {
         outStays();
         longest();
         emptyPhrase();
+        emptyAmongOthers();
+        unseenPhrase();
         Desk.finish();
     }
 
@@ -161,11 +163,45 @@ public final class WritingTest {
         Desk.due("15: behind it", desk.x.out(2412), -1);
     }
 
-    /** A told PHRASE of no bytes is a PHRASE: its LINE has the byte 10 alone. */
+    /** A PHRASE of no bytes is none, whether it was never told, told so, or told anew so. */
     private static void emptyPhrase() {
         Desk desk = desk();
         Desk.due("10: an empty tape", desk.x.phrase(5, 0), true);
-        Desk.due("14: by it", desk.write(0, 0), "\n\n");
+        Desk.due("14: by it", desk.write(0, 0), "");
+        Desk.due("15: OUT is empty", desk.x.out(0), -1);
         Desk.due("14: in a tongue without one", desk.write(0, 1), "");
+        desk.phrase(5, 0, "ab");
+        desk.phrase(5, 1, "cd");
+        Desk.due("14: told behind it", desk.write(0, 0), "ab\nab\n");
+        Desk.due("10: emptied", desk.phrase(5, 0, ""), true);
+        Desk.due("14: emptied", desk.write(0, 0), "");
+        Desk.due("14: the other tongue's stays", desk.write(0, 1), "cd\ncd\n");
+    }
+
+    /** Only the LINES of the empty PHRASE go, wherever they stand among the others. */
+    private static void emptyAmongOthers() {
+        Desk desk = desk();
+        desk.rules("say 5 when 0=0; say 15 when 0=0; say 25 when 0=0;");
+        for (int empty = 5; empty < 30; empty += 10) {
+            StringBuilder want = new StringBuilder();
+            for (int saying = 5; saying < 30; saying += 10) {
+                desk.phrase(saying, 0, saying == empty ? "" : "s" + saying);
+                want.append(saying == empty ? "" : "s" + saying + "\ns" + saying + "\n");
+            }
+            Desk.due("14: without " + empty, desk.write(0, 0), want.toString());
+        }
+        Desk.due("12: the page has them still", desk.x.page(0), 6);
+    }
+
+    /** A PHRASE that has bytes is one, though nothing of it may be seen: its byte 10 is written. */
+    private static void unseenPhrase() {
+        Desk desk = desk();
+        desk.phrase(5, 0, "%");
+        Desk.due("14: % without a name", desk.write(0, 0), "\n\n");
+        desk.name(0, 0, "a");
+        desk.name(1, 0, "");
+        Desk.due("14: % with an empty name", desk.write(0, 0), "a\n\n");
+        desk.phrase(5, 0, "\n");
+        Desk.due("14: a byte 10", desk.write(0, 0), "\n\n\n\n");
     }
 }
