@@ -124,7 +124,7 @@ public final class ModelTest {
     }
 
     private void told() {
-        int length = random.nextInt(3) == 0 ? random.nextInt(24) : random.nextInt(12);
+        int length = random.nextInt(3) == 0 ? random.nextInt(24) : random.nextInt(random.nextInt(4) == 0 ? 2 : 12);
         StringBuilder text = new StringBuilder();
         for (int i = 0; i < length; i++) {
             int kind = random.nextInt(4);
@@ -136,9 +136,17 @@ public final class ModelTest {
             int s = upTo(5);
             due("name", x.name(s, tongue) ? 1 : 0, m.name(s, tongue) ? 1 : 0);
         } else {
-            int saying = upTo(40);
+            int p = random.nextInt(8);
+            int saying = sayingFor(p);
             due("phrase", x.phrase(saying, tongue) ? 1 : 0, m.phrase(saying, tongue) ? 1 : 0);
+            write(p, tongue);
         }
+    }
+
+    /** Mostly one that stands on the PUPIL's PAGE: of forty few do, and the others are not written. */
+    private int sayingFor(int p) {
+        int lines = m.page(p);
+        return lines == 0 || random.nextInt(3) == 0 ? upTo(40) : m.line(p, random.nextInt(lines), 0);
     }
 
     private void lines(int p) {
