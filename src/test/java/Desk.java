@@ -1,10 +1,19 @@
 import java.nio.charset.StandardCharsets;
+import java.util.function.IntPredicate;
 
 /** What the tests share: a MarkPages to call, texts put on its TAPE, and answers compared. */
 final class Desk {
     private static int wrong = 0;
 
-    final MarkPages x = new MarkPages();
+    final MarkPages x;
+
+    Desk() {
+        this(new MarkPages());
+    }
+
+    Desk(MarkPages x) {
+        this.x = x;
+    }
 
     static void due(String what, long got, long want) {
         if (got != want) {
@@ -22,6 +31,21 @@ final class Desk {
             wrong++;
             System.out.println(what + " answered [" + got + "], due is [" + want + "]");
         }
+    }
+
+    /** Both ends of a range can be; what lies beside them, and the ends of int, can't. */
+    static void range(String what, int low, int high, IntPredicate can) {
+        due(what + ", the least, " + low, can.test(low), true);
+        due(what + ", the greatest, " + high, can.test(high), true);
+        for (int n : outside(low, high)) {
+            due(what + ", " + n, can.test(n), false);
+        }
+    }
+
+    /** Beside the ends, where a byte or a short would wrap, and the ends of int. */
+    static int[] outside(int low, int high) {
+        return new int[] {low - 1, high + 1, low - 256, high + 256, low - 65536, high + 65536,
+            Integer.MIN_VALUE, Integer.MIN_VALUE + 10, Integer.MAX_VALUE - 10, Integer.MAX_VALUE};
     }
 
     static void finish() {
@@ -46,7 +70,7 @@ final class Desk {
         return this;
     }
 
-    private static int packed(byte[] bytes, int from) {
+    static int packed(byte[] bytes, int from) {
         int number = 0;
         for (int i = from; i < from + 4; i++) {
             number = number << 8 | (i < bytes.length ? bytes[i] & 255 : 7);

@@ -5,6 +5,7 @@ import java.lang.reflect.Modifier;
 import java.nio.file.Files;
 import java.nio.file.Path;
 import java.util.ArrayList;
+import java.util.Arrays;
 import java.util.Collections;
 import java.util.List;
 import java.util.regex.Pattern;
@@ -23,11 +24,33 @@ public final class FormTest {
 
     public static void main(String[] args) throws Exception {
         face();
+        inside();
         String code = Files.readString(SOURCE).replaceAll("(?s)/\\*.*?\\*/", "").replaceAll("//.*", "");
         for (String barred : BARRED) {
             Desk.due("source has " + barred, Pattern.compile(barred).matcher(code).find(), false);
         }
         Desk.finish();
+    }
+
+    /** Rules 1, 2 and 11, of the classes inside. */
+    private static void inside() {
+        Class<?>[] classes = MarkPages.class.getDeclaredClasses();
+        Desk.due("some twelve classes", classes.length < 13, true);
+        for (Class<?> c : classes) {
+            Desk.due("static: " + c, Modifier.isStatic(c.getModifiers()), true);
+            boolean hidden = (c.getModifiers() & (Modifier.PUBLIC | Modifier.PROTECTED)) == 0;
+            Desk.due("private or package-visible: " + c, hidden, true);
+            Desk.due("some twenty fields: " + c, ownFields(c) <= 20, true);
+            for (Method m : c.getDeclaredMethods()) {
+                boolean twice = FACE.stream().anyMatch(f -> f.startsWith(m.getName() + "("));
+                Desk.due("named as a public one: " + m, twice, false);
+                Desk.due("seven parameters: " + m, m.getParameterCount() <= 7, true);
+            }
+        }
+    }
+
+    private static long ownFields(Class<?> c) {
+        return Arrays.stream(c.getDeclaredFields()).filter(f -> !Modifier.isStatic(f.getModifiers())).count();
     }
 
     private static void face() {
@@ -57,9 +80,7 @@ public final class FormTest {
             boolean fixed = Modifier.isFinal(f.getModifiers()) || !Modifier.isStatic(f.getModifiers());
             Desk.due("static fields are final: " + f.getName(), fixed, true);
         }
-        for (Class<?> inside : c.getDeclaredClasses()) {
-            Desk.due("static: " + inside, Modifier.isStatic(inside.getModifiers()), true);
-        }
+        Desk.due("some twenty fields", ownFields(c) <= 20, true);
     }
 
     private static String told(Method m) {
