@@ -41,6 +41,10 @@ public final class FormTest {
             boolean hidden = (c.getModifiers() & (Modifier.PUBLIC | Modifier.PROTECTED)) == 0;
             Desk.due("private or package-visible: " + c, hidden, true);
             Desk.due("some twenty fields: " + c, ownFields(c) <= 20, true);
+            for (Field f : c.getDeclaredFields()) {
+                boolean fixed = Modifier.isFinal(f.getModifiers()) || !Modifier.isStatic(f.getModifiers());
+                Desk.due("static fields are final: " + f, fixed, true);
+            }
             for (Method m : c.getDeclaredMethods()) {
                 boolean twice = FACE.stream().anyMatch(f -> f.startsWith(m.getName() + "("));
                 Desk.due("named as a public one: " + m, twice, false);
